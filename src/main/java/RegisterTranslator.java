@@ -517,7 +517,8 @@ public final class RegisterTranslator {
 
         private void applyToLocal(int operation, int local) {
             if (operation == Op.STORE) {
-                kinds = Kinds.with(kinds, local, takeAny());
+                int stored = takeAny();
+                kinds = Kinds.with(kinds, local, stored);
                 return;
             }
             int kind = Kinds.kindIn(kinds, local);
