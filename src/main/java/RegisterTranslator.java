@@ -250,11 +250,11 @@ public final class RegisterTranslator {
         static final int BOTTOM = 8;
 
         static int kindIn(int kinds, int slot) {
-            return kinds >>> (2 * slot) & 3;
+            return (kinds >>> (2 * slot)) & 3;
         }
 
         static int with(int kinds, int slot, int kind) {
-            return kinds & ~(3 << (2 * slot)) | kind << (2 * slot);
+            return (kinds & ~(3 << (2 * slot))) | (kind << (2 * slot));
         }
 
         static boolean sameStacks(int one, int other) {
@@ -455,8 +455,10 @@ public final class RegisterTranslator {
                 applyToArrays(operation);
             } else if (Op.hasLocal(operation)) {
                 applyToLocal(operation, method.operand(place));
+            } else if (operation == Op.CALL) {
+                applyCall(table[method.operand(place)].parameters);
             } else {
-                applyToStack(operation, place);
+                applyToStack(operation);
             }
             if (stuck) {
                 refused = place;
@@ -530,7 +532,7 @@ public final class RegisterTranslator {
             }
         }
 
-        private void applyToStack(int operation, int place) {
+        private void applyToStack(int operation) {
             switch (operation) {
                 case Op.CONST:
                     push(Kinds.NUMBER);
@@ -554,26 +556,25 @@ public final class RegisterTranslator {
                 case Op.IFZERO:
                 case Op.IFNEG:
                 case Op.RETURN:
-                    takeNumbers(1);
+                    take(Kinds.NUMBER);
                     break;
                 case Op.IFLESS:
-                    takeNumbers(2);
-                    break;
-                case Op.CALL:
-                    takeNumbers(table[method.operand(place)].parameters);
-                    push(Kinds.NUMBER);
+                    take(Kinds.NUMBER);
+                    take(Kinds.NUMBER);
                     break;
                 default:
-                    takeNumbers(2);
+                    take(Kinds.NUMBER);
+                    take(Kinds.NUMBER);
                     push(Kinds.NUMBER);
                     break;
             }
         }
 
-        private void takeNumbers(int count) {
-            for (int k = 0; k < count; k++) {
+        private void applyCall(int parameters) {
+            for (int k = 0; k < parameters; k++) {
                 take(Kinds.NUMBER);
             }
+            push(Kinds.NUMBER);
         }
 
         private void take(int kind) {
@@ -621,7 +622,6 @@ public final class RegisterTranslator {
         static final int SET = 0x4B;
         static final int CALL = 0x71;
         static final int ADD = 0x90;
-        static final int REM = 0x94;
         static final int INC = 0xD8;
 
         private final Method[] table;
@@ -654,7 +654,7 @@ public final class RegisterTranslator {
         private void writeDistance(int place) {
             int from = method.firsts[place];
             int to = method.firsts[method.target(place)];
-            method.unitRow[from + 1] = to - from & 0xFFFF;
+            method.unitRow[from + 1] = (to - from) & 0xFFFF;
         }
 
         private void write(int place) {
@@ -768,7 +768,7 @@ public final class RegisterTranslator {
             int lowest = top - count + 1;
             int registers = 0;
             for (int k = 0; k < count; k++) {
-                registers += lowest + k << 4 * k;
+                registers += (lowest + k) << (4 * k);
             }
             method.addUnit(CALL + count * 0x1000);
             method.addUnit(number);
@@ -1133,7 +1133,7 @@ public final class RegisterTranslator {
         int step(Frame frame) {
             int unit = frame.unitBehind(0);
             int operation = unit & 0xFF;
-            int x = unit >>> 8 & 0xF;
+            int x = (unit >>> 8) & 0xF;
             int y = unit >>> 12;
             int[] registers = frame.registers;
             switch (operation) {
@@ -1185,7 +1185,7 @@ public final class RegisterTranslator {
         }
 
         private static int secondOf(Frame frame) {
-            return frame.unitBehind(1) >>> 8 & 0xF;
+            return (frame.unitBehind(1) >>> 8) & 0xF;
         }
 
         private static int goOn(Frame frame, int distance) {
@@ -1206,7 +1206,7 @@ public final class RegisterTranslator {
             int named = frame.unitBehind(2);
             Frame opened = openFrame(number);
             for (int k = 0; k < count; k++) {
-                opened.registers[k] = frame.registers[named >>> 4 * k & 0xF];
+                opened.registers[k] = frame.registers[(named >>> (4 * k)) & 0xF];
             }
             return goOn(frame, 3);
         }

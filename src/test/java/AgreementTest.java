@@ -4,7 +4,8 @@ import java.util.Random;
 
 /**
  * Drafts made from fixed seeds, most of them such that they can be verified, each answer of the class
- * held against the Reference; and stack code against register code of the same method.
+ * held against the Reference; and stack code against register code of the same method. The class
+ * does not count its calls, so an object is asked more than the 512 times here that are promised.
  */
 public final class AgreementTest {
     private static final int OBJECTS = 4000;
