@@ -96,6 +96,7 @@ public final class DefineTest {
         CHECK.due("41 bytes", x.type(0x14, 1), false);
         CHECK.due("a method of 40 bytes", x.define(1, 1), 0);
         CHECK.due("its last instruction", x.depth(0, 39), 2);
+        CHECK.due("none behind it", x.depth(0, 40), -1);
         x.run(true, 0, 100);
         CHECK.due("its value", x.value(), 12);
     }
@@ -181,6 +182,12 @@ public final class DefineTest {
         malformed(2, 0, 0, Check.CONST, 1, Check.DUP);
         malformed(2, 0, 0, Check.CONST, 1, Check.IFZERO, 0);
         malformed(2, 0, 0, Check.GOTO, 0, Check.LOAD, 0, Check.GOTO, 0);
+        int[] long38 = new int[38];
+        for (int k = 0; k < 38; k += 2) {
+            long38[k] = Check.GOTO;
+        }
+        malformed(38, 0, 0, and(long38, Check.GOTO, 2));
+        good(0, 0, and(long38, Check.GOTO, -38));
         good(0, 0, Check.GOTO, 0);
         good(0, 0, Check.CALL, 0, Check.RETURN);
         good(0, 6, Check.CONST, 1, Check.STORE, 5, Check.LOAD, 5, Check.RETURN);
@@ -213,6 +220,7 @@ public final class DefineTest {
         good(0, 0, and(eight, Check.RETURN));
         good(0, 0, and(eight, Check.SWAP, Check.RETURN));
         good(0, 0, and(eight, Check.NEW, Check.LENGTH, Check.RETURN));
+        good(0, 0, and(eight, Check.NEW, Check.GOTO, 0));
         good(1, 1, and(eight, Check.CALL, 0, Check.RETURN));
         refused(16, 0, 0, and(eight, Check.CONST, 1, Check.RETURN));
         refused(16, 0, 0, and(eight, Check.DUP, Check.RETURN));

@@ -88,6 +88,8 @@ public final class UnitsTest {
             0x3234, 0xFFFE,
             0x0213, 0x0064,
             0x020F);
+        x = defined(0, 0, Check.GOTO, 3, Check.ADD, Check.CONST, 1, Check.RETURN);
+        CHECK.dueUnits("a jump at place 0", x, 0, 0x0029, 0x0002, 0x1012, 0x000F);
         CHECK.dueUnits("a jump to itself", defined(0, 0, Check.GOTO, 0), 0, 0x0029, 0x0000);
     }
 
