@@ -23,8 +23,31 @@ final class Check {
     static final int RETURN = 20;
     static final int INC = 21;
 
+    /** The ends of int, for arguments that are far from every boundary. */
+    static final int LEAST = Integer.MIN_VALUE;
+    static final int MOST = Integer.MAX_VALUE;
+
+    private static final int MOST_SECONDS = 300;
+
     private int wrong;
     private int asked;
+
+    Check() {
+        Thread watch = new Thread(Check::endLateTest);
+        watch.setDaemon(true);
+        watch.start();
+    }
+
+    /** A call that never answers must fail the test, not hold it up. */
+    private static void endLateTest() {
+        try {
+            Thread.sleep(1000L * MOST_SECONDS);
+        } catch (InterruptedException interrupted) {
+            return;
+        }
+        System.out.println("a call did not answer within " + MOST_SECONDS + " seconds");
+        Runtime.getRuntime().halt(1);
+    }
 
     void due(String what, long got, long want) {
         asked++;
@@ -76,6 +99,34 @@ final class Check {
     static int define(RegisterTranslator x, int parameters, int locals, int... bytes) {
         type(x, bytes);
         return x.define(parameters, locals);
+    }
+
+    /** One row out of several. */
+    static int[] join(int[]... rows) {
+        int length = 0;
+        for (int[] row : rows) {
+            length += row.length;
+        }
+        int[] whole = new int[length];
+        int at = 0;
+        for (int[] row : rows) {
+            System.arraycopy(row, 0, whole, at, row.length);
+            at += row.length;
+        }
+        return whole;
+    }
+
+    static int[] row(int... bytes) {
+        return bytes;
+    }
+
+    /** The same bytes so many times. */
+    static int[] times(int n, int... bytes) {
+        int[] whole = new int[n * bytes.length];
+        for (int k = 0; k < whole.length; k++) {
+            whole[k] = bytes[k % bytes.length];
+        }
+        return whole;
     }
 
     static int[] with(int method, int budget) {
