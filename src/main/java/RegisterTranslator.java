@@ -354,14 +354,15 @@ public final class RegisterTranslator {
 
         /** Answers the first instruction that is no operation or lacks bytes. */
         private static int markInstructions(Method method) {
-            int place = 0;
-            while (place < method.length) {
-                int behind = method.behind(place);
-                if (!Op.exists(method.operation(place)) || behind > method.length) {
-                    return place;
+            int next = 0;
+            for (int place = 0; place < method.length; place++) {
+                if (place == next) {
+                    next = method.behind(place);
+                    if (!Op.exists(method.operation(place)) || next > method.length) {
+                        return place;
+                    }
+                    method.begins[place] = true;
                 }
-                method.begins[place] = true;
-                place = behind;
             }
             return NONE;
         }

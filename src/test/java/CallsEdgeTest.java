@@ -156,8 +156,8 @@ public final class CallsEdgeTest {
             CHECK.due("the next number", Check.define(x, 0, 0, ONE), 2);
         }
         RegisterTranslator full = used();
-        while (full.methods() < 6) {
-            Check.define(full, 0, 0, ONE);
+        for (int k = 2; k < 6; k++) {
+            CHECK.due("method " + k, Check.define(full, 0, 0, ONE), k);
         }
         String before = Snapshot.of(full);
         CHECK.due("define", Check.define(full, 1, 1, Check.GOTO, 0), RegisterTranslator.FULL);
@@ -221,6 +221,7 @@ public final class CallsEdgeTest {
             for (int k = 0; k < 6; k++) {
                 int number = Check.define(x, 0, 0, Check.CONST, 2 * k, Check.DUP, Check.RETURN);
                 CHECK.due("a number again", number, k);
+                CHECK.due("its units", x.units(k), 2 * k > 7 ? 4 : 3);
             }
             CHECK.due("full again", Check.define(x, 0, 0, ONE), RegisterTranslator.FULL);
             x.reset();
@@ -417,9 +418,8 @@ public final class CallsEdgeTest {
     private static void atTheLastCall() {
         RegisterTranslator x = used();
         int calls = KEEPING.length + 1 + ONE.length + 1 + 2;
-        while (calls < 509) {
+        for (; calls < 509; calls++) {
             x.run(calls % 2 == 0, 0, 50);
-            calls++;
         }
         CHECK.due("call 510", x.run(true, 0, 50), 0);
         CHECK.due("call 511", x.cell(0, 0), 30);

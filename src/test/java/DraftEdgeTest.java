@@ -129,8 +129,8 @@ public final class DraftEdgeTest {
             fill(x, before);
             Check.define(x, 0, 0, fine);
             dueEmpty(x, "a method");
-            while (x.methods() < 6) {
-                Check.define(x, 0, 0, fine);
+            for (int k = 1; k < 6; k++) {
+                CHECK.due("method " + k, Check.define(x, 0, 0, fine), k);
             }
             fill(x, before);
             CHECK.due("FULL", Check.define(x, 0, 0, fine), RegisterTranslator.FULL);

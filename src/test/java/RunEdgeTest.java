@@ -7,15 +7,18 @@ public final class RunEdgeTest {
         incWraps();
         everyConstIsPushed();
         comparisons();
+        zeros();
         divisors();
         sizes();
         sizesTogether();
         eightArrays();
         sizeBelowZeroGoesFirst();
         indices();
+        firstAndLastCell();
         eightMethodsRunning();
         methodsThatReturnedRunNoMore();
         arraysOfCalledMethodsCount();
+        stepsOfEachLine();
         everyBudget();
         thousandSteps();
         budgetGoesBeforeEveryEnd();
@@ -116,6 +119,15 @@ public final class RunEdgeTest {
         }
         dueOfTwo(less, Check.LEAST, Check.MOST, 1);
         dueOfTwo(less, Check.MOST, Check.LEAST, 0);
+    }
+
+    /** 0 ends a run as a divisor alone. */
+    private static void zeros() {
+        for (int a : new int[] {Check.LEAST, -1, 0, 1, Check.MOST}) {
+            dueOfTwo(ofTwo(Check.ADD), a, 0, a);
+            dueOfTwo(ofTwo(Check.SUB), a, 0, a);
+            dueOfTwo(ofTwo(Check.MUL), a, 0, 0);
+        }
     }
 
     private static void divisors() {
@@ -233,6 +245,22 @@ public final class RunEdgeTest {
             Check.CONST, 1, Check.NEW, Check.POP, Check.LOAD, 1), use);
     }
 
+    /** What SET put into the first and the last cell, GET finds there. */
+    private static void firstAndLastCell() {
+        RegisterTranslator x = defined(3, 4, Check.LOAD, 0, Check.NEW, Check.STORE, 3, Check.LOAD, 3,
+            Check.LOAD, 1, Check.LOAD, 2, Check.SET, Check.LOAD, 3, Check.LOAD, 1, Check.GET,
+            Check.RETURN);
+        for (int size : new int[] {1, 2, 63, 64}) {
+            for (int index : new int[] {0, size - 1}) {
+                for (int number : new int[] {Check.LEAST, -1, 1, Check.MOST}) {
+                    x.arguments(size, index, number);
+                    due("cell " + index + " of " + size, x, 0, number);
+                    CHECK.due("cell " + index + " of " + size, x.cell(0, index), number);
+                }
+            }
+        }
+    }
+
     /** Local 0 counts down to 0, one method deeper each time. */
     private static void eightMethodsRunning() {
         RegisterTranslator x = defined(1, 1, Check.LOAD, 0, Check.IFZERO, 10, Check.INC, 0, -1,
@@ -282,6 +310,51 @@ public final class RunEdgeTest {
                 CHECK.due("sizes " + c[0] + ": running", x.running(), c[3]);
             }
         }
+    }
+
+    /** Each instruction is one step, and each line of register code: three of a SWAP, none of a POP. */
+    private static void stepsOfEachLine() {
+        int[] two = {Check.CONST, 5, Check.CONST, 3};
+        int[] array = {Check.CONST, 1, Check.NEW, Check.CONST, 0};
+        for (int operation = Check.ADD; operation <= Check.REM; operation++) {
+            dueSteps(4, 5, 4, 4, Check.join(two, Check.row(operation, Check.RETURN)));
+        }
+        dueSteps(2, 2, 2, 1, Check.CONST, 7, Check.RETURN);
+        dueSteps(2, 2, 2, 2, Check.CONST, 8, Check.RETURN);
+        dueSteps(3, 3, 3, 2, Check.CONST, 1, Check.DUP, Check.RETURN);
+        dueSteps(4, 5, 3, 2, Check.join(two, Check.row(Check.POP, Check.RETURN)));
+        dueSteps(4, 5, 6, 5, Check.join(two, Check.row(Check.SWAP, Check.RETURN)));
+        dueSteps(3, 4, 3, 3, Check.GOTO, 2, Check.CONST, 1, Check.RETURN);
+        for (int operation : new int[] {Check.IFZERO, Check.IFNEG}) {
+            for (int a : new int[] {-1, 0, 1}) {
+                dueSteps(4, 6, 4, 4, Check.CONST, a, operation, 2, Check.CONST, 1, Check.RETURN);
+            }
+        }
+        dueSteps(5, 8, 5, 5, Check.join(two, Check.row(Check.IFLESS, 2, Check.CONST, 1,
+            Check.RETURN)));
+        dueSteps(4, 4, 4, 4, Check.CONST, 1, Check.NEW, Check.LENGTH, Check.RETURN);
+        dueSteps(5, 6, 5, 6, Check.join(array, Check.row(Check.GET, Check.RETURN)));
+        dueSteps(7, 10, 7, 8, Check.join(array, Check.row(Check.CONST, 7, Check.SET, Check.CONST, 1,
+            Check.RETURN)));
+        dueSteps(5, 9, 5, 5, Check.CONST, 1, Check.STORE, 0, Check.INC, 0, 1, Check.LOAD, 0,
+            Check.RETURN);
+        RegisterTranslator call = new RegisterTranslator();
+        Check.define(call, 0, 0, Check.CONST, 1, Check.RETURN);
+        Check.define(call, 0, 0, Check.CALL, 0, Check.RETURN);
+        CHECK.dueRun("CALL", call, false, Check.with(1, 99), 0, 1, 4, 2, 1);
+        CHECK.dueRun("CALL", call, true, Check.with(1, 99), 0, 1, 5, 4, 1);
+    }
+
+    /** Steps and at in stack code, then in register code. */
+    private static void dueSteps(int steps, int place, int lines, int unit, int... bytes) {
+        RegisterTranslator x = defined(0, 1, bytes);
+        String what = java.util.Arrays.toString(bytes);
+        CHECK.due("run " + what, x.run(false, 0, 99), 0);
+        CHECK.due("steps " + what, x.steps(), steps);
+        CHECK.due("at " + what, x.at(), place);
+        CHECK.due("run of units " + what, x.run(true, 0, 99), 0);
+        CHECK.due("steps of units " + what, x.steps(), lines);
+        CHECK.due("at of units " + what, x.at(), unit);
     }
 
     /** From none to one more than are needed; where it stops is told by the lists. */

@@ -7,6 +7,7 @@ public final class VerifyEdgeTest {
 
     public static void main(String[] args) {
         stateOfInstructionZero();
+        stateOfInstructionZeroAfterARefusedOne();
         everyOperationOnEveryStack();
         parametersOfCalls();
         eightOnTheStack();
@@ -42,6 +43,7 @@ public final class VerifyEdgeTest {
         }
     }
 
+    /** The locals from 0 on, and nothing behind them. */
     private static void dueLocals(RegisterTranslator x, int place, String kinds) {
         for (int k = 0; k < 8; k++) {
             int want = k < kinds.length() ? kind(kinds.charAt(k)) : 0;
@@ -73,7 +75,28 @@ public final class VerifyEdgeTest {
         }
     }
 
-    /** What an operation pops (x for both kinds), and what it pushes: the letters of popped ones. */
+    /** The refused one left arrays in all locals, two on its stack, and 14 reached but not looked at. */
+    private static void stateOfInstructionZeroAfterARefusedOne() {
+        RegisterTranslator x = new RegisterTranslator();
+        int[] arrays = {Check.CONST, 1, Check.NEW, Check.DUP, Check.STORE, 0, Check.STORE, 1};
+        int[] refused = {Check.CONST, 1, Check.IFZERO, 4, Check.POP, Check.RETURN, Check.RETURN};
+        int answer = Check.define(x, 0, 2, Check.join(arrays, refused));
+        CHECK.due("the one before", answer, RegisterTranslator.REFUSED);
+        CHECK.due("its fault", x.fault(), 12);
+        answer = Check.define(x, 0, 2, Check.join(arrays, Check.row(Check.CONST, 1, Check.DUP,
+            Check.LENGTH, Check.RETURN)));
+        CHECK.due("the one before", answer, RegisterTranslator.REFUSED);
+        CHECK.due("its fault", x.fault(), 11);
+        int[] code = Check.join(Check.row(Check.GOTO, 0), Check.times(15, Check.ADD),
+            Check.row(Check.RETURN));
+        CHECK.due("define", Check.define(x, 0, 2, code), 0);
+        dueLocals(x, 0, "--");
+        dueStack(x, 0, "");
+        CHECK.due("not reached", x.depth(0, 14), -1);
+        CHECK.due("units", x.units(0), 2);
+    }
+
+    /** Each operation with what it pops (x for both kinds) and what it pushes, on all short stacks. */
     private static void everyOperationOnEveryStack() {
         String[] stacks = {"", "n", "a", "nn", "na", "an", "aa", "nnn", "nna", "nan", "naa", "ann",
             "ana", "aan", "aaa"};
@@ -241,6 +264,12 @@ public final class VerifyEdgeTest {
                 }
             }
         }
+        // local 0 too: a number on one way, an array on the other
+        int[] code = {Check.LOAD, 1, Check.IFZERO, 7, Check.CONST, 1, Check.NEW, Check.STORE, 0};
+        RegisterTranslator x = due(WELL, 2, 2, Check.join(code, Check.row(Check.GOTO, 0)));
+        dueLocals(x, 4, "nn");
+        dueLocals(x, 9, "-n");
+        due(9, 2, 2, Check.join(code, Check.row(Check.LOAD, 0, Check.GOTO, 0)));
     }
 
     /** The way on which the jump is not done goes first. */
